@@ -721,7 +721,7 @@ public final class ThriceCounted {
         }
 
         private boolean hasCell(int row, int column) {
-            return has(row) && column >= 0 && column < width && row * width + column < cells.length;
+            return row >= 0 && row < size && column >= 0 && column < width && row * width + column < cells.length;
         }
 
         int get(int row, int column) {
@@ -822,7 +822,8 @@ public final class ThriceCounted {
             int bundle = bundles.grow();
             bundles.put(bundle, LOW, low);
             bundles.put(bundle, HIGH, high);
-            putBand(bundle, NONE, NONE);
+            bundles.put(bundle, BAND, NONE);
+            bundles.put(bundle, SIGNER, NONE);
             return bundle;
         }
 
@@ -1009,7 +1010,7 @@ public final class ThriceCounted {
             return a;
         }
 
-        /** Whether a by b is more than c by d; their products may be too great for a long, so it divides step by step. */
+        /** Whether a by b is more than c by d; products may be too great for a long, so it divides step by step. */
         static boolean isMore(long a, long b, long c, long d) {
             long above = a;
             long below = b;
@@ -1048,6 +1049,7 @@ public final class ThriceCounted {
         private int start = 0;
         private int value = 0;
         private int items = 0;
+        private boolean faulty = false;
 
         int fault() {
             return start;
@@ -1062,6 +1064,7 @@ public final class ThriceCounted {
             length = Math.max(0, Math.min(newLength, newText.length));
             place = 0;
             items = 0;
+            faulty = false;
             draft.empty();
             step();
             if (!isWord("bank")) {
@@ -1104,70 +1107,49 @@ public final class ThriceCounted {
         private boolean clerkItem() {
             step();
             int trust = number(0, MOST_TRUST);
-            if (trust == NONE) {
-                return false;
+            if (!faulty) {
+                draft.addClerk(trust);
             }
-            draft.addClerk(trust);
-            return true;
+            return !faulty;
         }
 
         private boolean bundleItem() {
             step();
             int low = number(LOWEST, HIGHEST);
-            if (low == NONE) {
-                return false;
-            }
             int high = number(low, HIGHEST);
-            if (high == NONE) {
-                return false;
+            if (!faulty) {
+                draft.addBundle(low, high);
             }
-            draft.addBundle(low, high);
-            return true;
+            return !faulty;
         }
 
         private boolean bandItem() {
             step();
             int bundle = number(0, draft.bundles.size() - 1);
-            if (bundle == NONE) {
-                return false;
-            }
             int n = number(LOWEST, HIGHEST);
-            if (n == NONE) {
-                return false;
-            }
             int clerk = number(0, draft.clerks.size() - 1);
-            if (clerk == NONE) {
-                return false;
+            if (!faulty) {
+                draft.putBand(bundle, n, clerk);
             }
-            draft.putBand(bundle, n, clerk);
-            return true;
+            return !faulty;
         }
 
         private boolean countItem() {
             step();
             int bundle = number(0, draft.bundles.size() - 1);
-            if (bundle == NONE) {
-                return false;
-            }
             int way = number(0, WAYS - 1);
-            if (way == NONE) {
-                return false;
-            }
             int clerk = number(0, draft.clerks.size() - 1);
-            if (clerk == NONE) {
-                return false;
-            }
             int told = number(LEAST_TOLD, MOST_TOLD);
-            if (told == NONE) {
-                return false;
+            if (!faulty) {
+                draft.addCount(bundle, way, clerk, told);
             }
-            draft.addCount(bundle, way, clerk, told);
-            return true;
+            return !faulty;
         }
 
-        /** Takes a number of that range; where none is at hand, the token stays at hand and NONE is answered. */
+        /** Takes a number of that range; behind a faulty one none is taken, so that its token stays at hand. */
         private int number(int least, int most) {
-            if (kind != NUMBER || value < least || value > most) {
+            if (faulty || kind != NUMBER || value < least || value > most) {
+                faulty = true;
                 return NONE;
             }
             int taken = value;

@@ -26,6 +26,7 @@ public final class ModelTest {
     public static void main(String[] args) {
         for (int run = 0; run < RUNS; run++) {
             new ModelTest(run).run(run);
+            new ModelTest(run).lookRun(run);
         }
         Check.finish("ModelTest");
     }
@@ -182,6 +183,17 @@ public final class ModelTest {
             both(run, "type", text.charAt(i));
         }
         both(run, "read");
+    }
+
+    /** Small numbers, so that many orders are alike and many causes take no minutes or are never found. */
+    private void lookRun(int run) {
+        int many = between(2, 6);
+        for (int i = 0; i < many; i++) {
+            both(run, "cause", 7, between(1, 4), between(0, 4), between(0, 3) * 3);
+        }
+        for (int i = 0; i <= many; i++) {
+            both(run, "look", 7, i);
+        }
     }
 
     private void run(int run) {

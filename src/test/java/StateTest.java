@@ -59,6 +59,8 @@ public final class StateTest {
         Check.due("undo goes on, of back", x.undo(), 2);
         Check.due("its counts", x.of(0, 3), 95);
         Check.due("undo goes on, of tell", x.undo(), 1);
+        Check.due("the count that was read", x.of(0, 3), 95);
+        Check.no("no more to undo", x, x::undo);
         x.from(0);
         Check.due("an image stays as it was kept", x.digest(), kept);
         x.clear();

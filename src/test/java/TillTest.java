@@ -5,6 +5,7 @@ public final class TillTest {
         why();
         look();
         lookOfLikeOnes();
+        lookOfSix();
         writeOff();
         drawn();
         Check.finish("TillTest");
@@ -97,6 +98,18 @@ public final class TillTest {
         Check.fraction("all minutes", y, 5, 1);
     }
 
+    private static void lookOfSix() {
+        ThriceCounted x = causes(new int[][] {{9, 1, 30, 1}, {9, 2, 20, 2}, {9, 3, 15, 4}, {9, 4, 12, 5}, {9, 5, 6, 7},
+            {9, 20, 1, 10}});
+        for (int i = 0; i < 6; i++) {
+            Check.due("six: look(9, " + i + ")", x.look(9, i), 5 - i);
+        }
+        Check.unchanged("no 7th", x, -5, () -> x.look(9, 6));
+        // Until 1, 7, 19, 34, 54, 84: 20*10*1, 5*(7*7+3*84), 4*(5*19+5*84), 3*(4*34+6*84), 2*(2*54+8*84), 10*84,
+        // together 8085, by ten times the odds 35.
+        Check.fraction("six", x, 231, 10);
+    }
+
     private static void writeOff() {
         ThriceCounted x = causes(new int[][] {{30, 1, 6, 10}, {30, 1, 30, 10}, {-30, 1, 1, 3}, {0, 1, 0, 10}});
         Check.unchanged("10*4*6 below 30*10", x, 0, () -> x.writeOff(30, 4));
@@ -104,6 +117,9 @@ public final class TillTest {
         Check.due("without its sign: 80 below 90", x.writeOff(-30, 8), 0);
         Check.due("90 is 90", x.writeOff(-30, 9), 1);
         Check.due("off by nothing", x.writeOff(0, 0), 1);
+        x.cause(95, 1, 1, 1);
+        Check.due("90 below 95", x.writeOff(95, 9), 0);
+        Check.due("100 above 95", x.writeOff(95, 10), 1);
         Check.due("no cause", x.writeOff(198, 0), 1);
         Check.due("99 a minute", x.writeOff(-198, 99), 1);
         Check.bad("writeOff(-199, 0)", x, () -> x.writeOff(-199, 0));
@@ -117,6 +133,8 @@ public final class TillTest {
         int[] seeds = {0, 1, 5, 77, 65536, 999999};
         for (int way = 0; way < 6; way++) {
             for (int seed : seeds) {
+                drawn(x, way, seed, 1);
+                drawn(x, way, seed, 2);
                 for (int n = 0; n <= 60; n += 15) {
                     drawn(x, way, seed, n);
                 }

@@ -6,6 +6,7 @@ public final class TrulyTest {
         likelyByLimits();
         likelyByBand();
         likelyByCounts();
+        likelyAtTheEdges();
         truly();
         agreed();
         believe();
@@ -82,6 +83,24 @@ public final class TrulyTest {
         likely(y, 0, 102, 1, 3);
     }
 
+    private static void likelyAtTheEdges() {
+        ThriceCounted x = Check.readNew("bank;clerk 5;bundle 90 91;bundle 109 110;bundle 90 90;");
+        x.tell(0, 0, 0, 90);
+        likely(x, 0, 90, 17, 19);
+        likely(x, 0, 91, 2, 19);
+        x.tell(0, 0, 0, 89);
+        likely(x, 0, 90, 1, 1);
+        Check.due("90 alone", x.truly(0, 1), 1);
+        x.tell(1, 2, 0, 110);
+        likely(x, 1, 110, 8, 11);
+        x.tell(1, 2, 0, 111);
+        likely(x, 1, 110, 8, 11);
+        x.tell(1, 2, 0, 112);
+        likely(x, 1, 110, 1, 1);
+        x.tell(2, 1, 0, 85);
+        likely(x, 2, 90, 1, 1);
+    }
+
     private static void truly() {
         ThriceCounted x = Check.readNew(ONE + "bundle 90 110;count 1 3 0 100;");
         Check.due("of like ones the least", x.truly(0, 0), 98);
@@ -118,6 +137,8 @@ public final class TrulyTest {
         x.back(0);
         x.back(2);
         Check.due("taken back", x.agreed(0), 99);
+        ThriceCounted y = Check.readNew(ONE + "count 0 0 0 80;count 0 1 0 80;count 0 1 0 81;");
+        Check.due("the first two", y.agreed(0), 80);
         Check.bad("agreed(2)", x, () -> x.agreed(2));
         Check.bad("agreed(-1)", x, () -> x.agreed(-1));
     }
@@ -162,8 +183,12 @@ public final class TrulyTest {
         Check.due("by weight 8 of 11, 64 of 73, 512 of 539", x.enough(0, 2, 9), 3);
         Check.due("8 of 11", x.enough(0, 2, 7), 1);
         Check.due("by height, of twenty", x.enough(1, 3, 9), -1);
+        x.bundle(99, 101);
+        Check.due("4 of 10", x.enough(3, 3, 4), 1);
+        Check.due("16 of 34, 64 of 118", x.enough(3, 3, 5), 3);
+        Check.due("three at most: by four 256 of 418", x.enough(3, 3, 6), -1);
         Check.unchanged("none can be", x, -1, () -> x.enough(2, 0, 1));
-        Check.bad("enough(3, 0, 1)", x, () -> x.enough(3, 0, 1));
+        Check.bad("enough(4, 0, 1)", x, () -> x.enough(4, 0, 1));
         Check.bad("enough(-1, 0, 1)", x, () -> x.enough(-1, 0, 1));
         Check.bad("enough(0, 6, 1)", x, () -> x.enough(0, 6, 1));
         Check.bad("enough(0, -1, 1)", x, () -> x.enough(0, -1, 1));
