@@ -4,6 +4,7 @@ public final class StateTest {
         constants();
         part();
         imageAndFrom();
+        imageKeepsWhatMayBeUndone();
         status();
         count();
         digest();
@@ -75,6 +76,23 @@ public final class StateTest {
         x.image(0);
         x.from(0);
         Check.due("images are not the image's", x.from(1), 1);
+    }
+
+    private static void imageKeepsWhatMayBeUndone() {
+        ThriceCounted x = Check.readNew("bank;clerk 1;bundle 90 99;count 0 0 0 95;");
+        x.tell(0, 1, 0, 96);
+        x.tell(0, 2, 0, 97);
+        x.image(1);
+        Check.read(x, "bank;clerk 1;bundle 90 99;");
+        x.tell(0, 5, 0, 120);
+        x.tell(0, 5, 0, 120);
+        x.tell(0, 5, 0, 120);
+        x.from(1);
+        Check.due("two may be undone", x.count(4), 2);
+        Check.due("undo", x.undo(), 2);
+        Check.due("what was told", x.of(1, 3), 96);
+        Check.due("undo", x.undo(), 1);
+        Check.due("what was read", x.of(0, 3), 95);
     }
 
     private static void status() {

@@ -166,6 +166,16 @@ public final class TrulyTest {
         x.tell(0, 1, 0, 96);
         Check.due("wrong(1)", x.wrong(1), 1);
         Check.fraction("another than any can be", x, 1, 1);
+        ThriceCounted w = Check.readNew("bank;clerk 5;bundle 90 92;bundle 108 110;count 0 0 0 89;count 1 0 0 111;");
+        Check.due("told below 90", w.wrong(0), 1);
+        Check.fraction("told below 90", w, 1, 1);
+        w.likely(0, 92);
+        Check.due("told above 110", w.wrong(1), 1);
+        Check.fraction("told above 110", w, 1, 1);
+        w.bundle(90, 91);
+        w.tell(2, 0, 0, 90);
+        Check.due("told 90", w.wrong(2), 1);
+        Check.fraction("told 90", w, 2, 19);
         ThriceCounted y = Check.readNew("bank;clerk 5;bundle 99 99;count 0 0 0 99;");
         Check.due("wrong(0)", y.wrong(0), 1);
         Check.fraction("never wrong", y, 0, 1);
