@@ -20,6 +20,7 @@ public final class BankTest {
         backOfEight();
         backOfNone();
         undoOfTellAndBack();
+        undoOfBackOfEight();
         undoOfCountsAlone();
         undoNoneMayBe();
         undoKeepsEightAtMost();
@@ -289,6 +290,23 @@ public final class BankTest {
         Check.no("what is read is not undone", x, x::undo);
     }
 
+    private static void undoOfBackOfEight() {
+        for (int count = 0; count < 8; count++) {
+            ThriceCounted x = Check.readNew("bank;clerk 1;clerk 1;bundle 90 99;bundle 90 99;");
+            for (int i = 0; i < 8; i++) {
+                x.tell(i % 2, i % 6, i / 4, 100 + i);
+            }
+            x.back(count);
+            Check.due("undo of back(" + count + ")", x.undo(), 8);
+            for (int i = 0; i < 8; i++) {
+                Check.due("bundle of " + i, x.of(i, 0), i % 2);
+                Check.due("way of " + i, x.of(i, 1), i % 6);
+                Check.due("clerk of " + i, x.of(i, 2), i / 4);
+                Check.due("told by " + i, x.of(i, 3), 100 + i);
+            }
+        }
+    }
+
     private static void undoOfCountsAlone() {
         ThriceCounted x = Check.readNew(ONE);
         x.tell(0, 2, 0, 92);
@@ -404,6 +422,9 @@ public final class BankTest {
         Check.due("bytes", x.count(5), 0);
         Check.unchanged("an empty one is read", x, -10, x::read);
         Check.due("clear again", x.clear(), 0);
+        x.type(' ');
+        x.clear();
+        Check.unchanged("nothing of what was typed is left", x, -10, x::read);
         Check.due("type anew", x.type(0), 1);
         Check.due("clear of one", x.clear(), 1);
     }

@@ -19,16 +19,33 @@ public final class LanguageTest {
 
     public static void main(String[] args) throws IOException {
         String source = Files.readString(Path.of("src/main/java/ThriceCounted.java"));
-        wordsLeftOut(source);
+        String code = source.replaceAll("(?s)/\\*.*?\\*/", "").replaceAll("//[^\n]*", "");
+        wordsLeftOut(code);
+        library(code);
         methodsAreShort(source);
         face(Files.readString(Path.of("../shared/DOC.md")));
         membersOfTheClass();
         classesInside();
+        fieldsOf(ThriceCounted.class);
+        for (Class<?> one : ThriceCounted.class.getDeclaredClasses()) {
+            fieldsOf(one);
+        }
         Check.finish("LanguageTest");
     }
 
-    private static void wordsLeftOut(String source) {
-        String code = source.replaceAll("(?s)/\\*.*?\\*/", "").replaceAll("//[^\n]*", "");
+    /** Rule 4: of the library's static functions these few alone. */
+    private static void library(String code) {
+        Pattern call = Pattern.compile("\\b(Math|System|Arrays|Integer|Long|String|List)\\s*\\.\\s*\\w+");
+        Matcher matcher = call.matcher(code);
+        TreeSet<String> used = new TreeSet<>();
+        while (matcher.find()) {
+            used.add(matcher.group());
+        }
+        used.removeAll(List.of("Math.max", "Math.min", "Math.abs", "System.arraycopy"));
+        Check.due("library " + used, used.size(), 0);
+    }
+
+    private static void wordsLeftOut(String code) {
         for (String word : LEFT_OUT) {
             Check.due("left out: " + word, Pattern.compile(word).matcher(code).results().count(), 0);
         }
@@ -97,6 +114,22 @@ public final class LanguageTest {
         Check.due("its parameters", constructors[0].getParameterCount(), 0);
     }
 
+    /** Rules 5 and 11: static fields are final constants, and an object has some twenty fields at most. */
+    private static void fieldsOf(Class<?> one) {
+        List<Class<?>> constants = List.of(int.class, long.class, boolean.class, char.class, String.class, int[].class,
+                long[].class, char[].class, byte[].class);
+        int many = 0;
+        for (Field field : one.getDeclaredFields()) {
+            if (!Modifier.isStatic(field.getModifiers())) {
+                many++;
+                continue;
+            }
+            Check.due(field + " is final", Modifier.isFinal(field.getModifiers()) ? 1 : 0, 1);
+            Check.due(field + " is a constant", constants.contains(field.getType()) ? 1 : 0, 1);
+        }
+        Check.due(one + " has twenty fields at most", many <= 20 ? 1 : 0, 1);
+    }
+
     private static void classesInside() {
         Class<?>[] inside = ThriceCounted.class.getDeclaredClasses();
         Check.due("twelve classes at most", inside.length + 1 <= 12 ? 1 : 0, 1);
@@ -107,11 +140,6 @@ public final class LanguageTest {
         for (Class<?> one : inside) {
             Check.due(one + " is static", Modifier.isStatic(one.getModifiers()) ? 1 : 0, 1);
             Check.due(one + " is not open", one.getModifiers() & (Modifier.PUBLIC | Modifier.PROTECTED), 0);
-            for (Field field : one.getDeclaredFields()) {
-                int modifiers = field.getModifiers();
-                Check.due(field + " is not static, or final",
-                        Modifier.isStatic(modifiers) && !Modifier.isFinal(modifiers) ? 1 : 0, 0);
-            }
             for (Method method : one.getDeclaredMethods()) {
                 Check.due(method + " bears no public name", open.contains(method.getName()) ? 1 : 0, 0);
                 Check.due(method + " has seven parameters at most", method.getParameterCount() <= 7 ? 1 : 0, 1);

@@ -1,3 +1,5 @@
+import java.util.Arrays;
+
 /**
  * "BAD -2 a number is not as told": every number of every call, the last that is taken and the first that is refused on
  * either side, where nobody and nothing is there, one of each, a bundle that can hold no number, and all is full. A
@@ -117,7 +119,7 @@ public final class RangesTest {
     /** It is one call that is refused, however many of its numbers are wrong. */
     private static void allNumbersWrongAtOnce(String call, States state) {
         int[] numbers = new int[ranges(call, state).length];
-        java.util.Arrays.fill(numbers, MIN);
+        Arrays.fill(numbers, MIN);
         refused(call, state, numbers);
     }
 

@@ -118,10 +118,14 @@ public final class StateTest {
         Check.due("counts of the second", x.count(2), 7);
         ThriceCounted y = States.FULL.make();
         y.image(1);
+        int told = y.of(7, 3);
         y.forget();
         y.undo();
         y.from(1);
         Check.due("all as kept", y.digest(), full);
+        y.back(7);
+        y.undo();
+        Check.due("the last count too", y.of(7, 3), told);
         Check.due("two images of two states", full == later ? 1 : 0, 0);
     }
 

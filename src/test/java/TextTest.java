@@ -74,7 +74,8 @@ public final class TextTest {
                 Check.due("of(" + count + ", " + what + ")", x.of(count, what), counts[count][what]);
             }
         }
-        ThriceCounted trust = Check.readNew("bank;clerk 0;clerk 10;bundle 99 100;bundle 99 100;band 0 99 0;band 1 99 1;");
+        ThriceCounted trust = Check.readNew("bank;clerk 0;clerk 10;bundle 99 100;bundle 99 100;"
+                + "band 0 99 0;band 1 99 1;");
         Check.due("trust 0: not what the band says", trust.truly(0, 0), 100);
         Check.due("trust 10: what the band says", trust.truly(1, 0), 99);
     }

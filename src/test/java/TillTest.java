@@ -8,6 +8,7 @@ public final class TillTest {
         whyNone();
         whyAtTheFarthest();
         whyOfPairsByTheirProduct();
+        whyOfMostOdds();
         whyOfLikeOnesTheFirst();
         whyOfSix();
         whyRefused();
@@ -16,6 +17,7 @@ public final class TillTest {
         lookForWhatIsNeverOrAlwaysFound();
         lookInNoTime();
         lookOfLikeOnesTheFirst();
+        lookForFewerThanBefore();
         lookForSix();
         lookNotSoMany();
         lookRefused();
@@ -110,6 +112,10 @@ public final class TillTest {
     }
 
     private static void whyNone() {
+        ThriceCounted off = causes(row(1, 1, 1, 1), row(-2, 1, 1, 1));
+        Check.due("-1: the pair alone", off.why(-1, 0), 1);
+        off.forget();
+        Check.due("-1 of no causes", off.why(-1, 0), 0);
         ThriceCounted x = causes(row(10, 20, 1, 1));
         Check.unchanged("not one twice", x, 0, () -> x.why(20, 0));
         Check.unchanged("none", x, -1, () -> x.why(20, 1));
@@ -141,6 +147,20 @@ public final class TillTest {
         Check.due("18 alike: the pair is the first", z.why(10, 1), 1);
         ThriceCounted more = causes(row(4, 19, 1, 1), row(6, 19, 1, 1), row(10, 19, 1, 1));
         Check.due("19 is more than 18", more.why(10, 1), 22);
+    }
+
+    /** "that of most ODDS", wherever it stands. */
+    private static void whyOfMostOdds() {
+        for (int most = 0; most < 4; most++) {
+            ThriceCounted x = new ThriceCounted();
+            for (int i = 0; i < 4; i++) {
+                x.cause(6, i == most ? 20 : 19 - i, 1, 1);
+            }
+            Check.due("the one of most odds", x.why(6, 1), 11 * most);
+            Check.due("the pair of most odds", x.why(12, 1), most == 0 ? 1 : most);
+        }
+        ThriceCounted y = causes(row(1, 20, 1, 1), row(2, 20, 1, 1), row(3, 5, 1, 1), row(0, 20, 1, 1));
+        Check.due("a pair ahead of one, and of one more pair", y.why(3, 1), 1);
     }
 
     /** "of like ones the first (10 i and j, rising)". */
@@ -241,6 +261,14 @@ public final class TillTest {
         look(alike, 6, new int[] {0, 2, 3}, 2, 1);
     }
 
+    private static void lookForFewerThanBefore() {
+        ThriceCounted x = causes(row(9, 1, 9, 10), row(9, 20, 1, 10), row(5, 2, 30, 10), row(9, 2, 8, 10),
+                row(5, 3, 30, 10), row(9, 3, 7, 10));
+        Check.due("1, 5, 3, 0", x.look(9, 0) * 1000 + x.look(9, 1) * 100 + x.look(9, 2) * 10 + x.look(9, 3), 1530);
+        // (3*30 + 2*60)/5.
+        look(x, 5, new int[] {4, 2}, 42, 1);
+    }
+
     private static void lookForSix() {
         ThriceCounted x = causes(row(9, 1, 30, 1), row(9, 2, 20, 2), row(9, 3, 15, 4), row(9, 4, 12, 5),
                 row(9, 5, 6, 7), row(9, 20, 1, 10));
@@ -320,6 +348,7 @@ public final class TillTest {
         ThriceCounted x = new ThriceCounted();
         Check.unchanged("no causes", x, 1, () -> x.writeOff(198, 0));
         Check.unchanged("no causes", x, 1, () -> x.writeOff(-198, 99));
+        Check.unchanged("no causes", x, 1, () -> x.writeOff(-1, 99));
         x.cause(99, 20, 0, 10);
         x.cause(99, 20, 0, 10);
         Check.unchanged("a pair is not looked for", x, 1, () -> x.writeOff(198, 0));

@@ -21,6 +21,7 @@ public final class TrulyTest {
         enoughWhereCountsAreFull();
         enoughRefused();
         planByEveryMinute();
+        planByEveryMinuteWithABand();
         planOfLikeOnesTheFirst();
         planWhereCountsAreFull();
         planRefused();
@@ -28,6 +29,7 @@ public final class TrulyTest {
         openWithoutBandOrTruth();
         sumOfNoneAndAll();
         sumWhereOneHasNone();
+        sumWhereThereWereMore();
         Check.finish("TrulyTest");
     }
 
@@ -185,6 +187,13 @@ public final class TrulyTest {
         wrong(x, 2, 0, 1);
         wrong(x, 1, 1, 1);
         wrong(x, 3, 1, 1);
+        int[][] far = {{1, 85, 90, 95}, {3, 87, 90, 95}, {2, 112, 105, 110}, {3, 113, 105, 110}};
+        for (int[] one : far) {
+            ThriceCounted y = Check.readNew("bank;clerk 5;");
+            y.bundle(one[2], one[3]);
+            y.tell(0, one[0], 0, one[1]);
+            wrong(y, 0, 1, 1);
+        }
     }
 
     private static void wrongRefused() {
@@ -291,6 +300,30 @@ public final class TrulyTest {
         }
     }
 
+    /** 100 against 99 by 9 to 1, and by 17, 16 and 8 to 1, 1 and 3 for each count. */
+    private static void planByEveryMinuteWithABand() {
+        ThriceCounted x = Check.readNew("bank;clerk 1;bundle 99 100;band 0 99 0;");
+        int[] due = {0, 1, 2, 3, 11, 12, 20, 21, 21, 30, 30, 120, 120, 210, 210, 300};
+        for (int m = 0; m <= 30; m++) {
+            int best = due[Math.min(m, 15)];
+            long here = 9;
+            long there = 1;
+            for (int i = 0; i < best / 100; i++) {
+                here *= 17;
+            }
+            for (int i = 0; i < best / 10 % 10; i++) {
+                here *= 16;
+            }
+            for (int i = 0; i < best % 10; i++) {
+                here *= 8;
+                there *= 3;
+            }
+            // What both have of 3 is all that they have in common.
+            long common = there == 1 ? 1 : there == 3 ? 3 : 9;
+            plan(x, 0, m, best, here / common, (here + there) / common);
+        }
+    }
+
     /** "of like ones the first (100 a, 10 f and g)". */
     private static void planOfLikeOnesTheFirst() {
         ThriceCounted x = Check.readNew("bank;clerk 5;bundle 99 99;bundle 98 102;count 1 1 0 97;");
@@ -383,5 +416,21 @@ public final class TrulyTest {
             x.undo();
             Check.unchanged("all have again", x, 280, x::sum);
         }
+    }
+
+    private static void sumWhereThereWereMore() {
+        ThriceCounted x = Check.readNew("bank;clerk 5;bundle 91 91;");
+        x.image(0);
+        x.bundle(92, 92);
+        Check.due("two", x.sum(), 183);
+        x.from(0);
+        Check.due("one again", x.sum(), 91);
+        x.bundle(93, 93);
+        x.tell(1, 0, 0, 80);
+        Check.due("one has none", x.sum(), -1);
+        x.from(0);
+        Check.due("it is there no more", x.sum(), 91);
+        x.bank();
+        Check.due("none", x.sum(), 0);
     }
 }
